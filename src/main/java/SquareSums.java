@@ -209,7 +209,6 @@ public final class SquareSums {
         if (!isProved()) {
             return STATE;
         }
-        placeThere = false;
         if (!proof.left[rankOf(0)]) {
             return 0;
         }

@@ -192,10 +192,11 @@ public final class PromisesTest {
         formOf(x, 0, 0, -1, 1, 1, -1);
         due("negative by X 1", x.prove(2), 0);
         duePoint(x, 1, 1, 1);
-        // t has to be 4: 10 - t^2
-        formOf(x, 0, 0, 10, 2, 2, -1);
+        // t has to be 8: 16 - t^2 is not below 0 at 4
+        formOf(x, 0, 0, 16, 2, 2, -1);
         due("doubled", x.prove(3), 0);
-        duePoint(x, 2, 4, 1);
+        duePoint(x, 1, 0, 1);
+        duePoint(x, 2, 8, 1);
         // a pair, above 0: V 2 is -1
         formOf(x, 1, 2, 5);
         due("pair", x.prove(4), 0);
@@ -214,6 +215,17 @@ public final class PromisesTest {
         formOf(x, 0, 0, -1);
         due("below everywhere", x.prove(8), 0);
         duePoint(x, 1, 0, 1);
+        // X 2 is below 0 ahead of X 1 being a pivot
+        formOf(x, 1, 1, 1, 1, 2, 2, 2, 2, -1);
+        due("below comes ahead of above", x.prove(9), 0);
+        duePoint(x, 1, 0, 1);
+        duePoint(x, 2, 1, 1);
+        // M i j less M j k * (M k i / M k k) would be too long
+        SquareSums z = of(3);
+        formOf(z, 0, 0, 437501, 0, 1, -2400, 0, 2, -403368, 0, 3, 4860, 1, 1, 209999, 1, 2, 5600, 2, 2, 470596,
+            2, 3, 280000, 3, 3, 716800);
+        due("i up to j", z.prove(0), 1);
+        due("i up to j", z.plain(0), 4);
         SquareSums y = of(4);
         fillLong(y);
         due("too long", y.prove(0), 2);
@@ -273,6 +285,17 @@ public final class PromisesTest {
         due("points in order", y.under(0, 2, 1), 0);
         duePoint(y, 1, -3, 1);
         duePoint(y, 2, 0, 1);
+        // below 0 at -3, 3 and at 3, -3 alone; the condition is 0 everywhere
+        formOf(y, 1, 2, 1, 0, 0, 8);
+        formOf(y);
+        due("X 1 is the outer one", y.under(3, 4, 2), 0);
+        duePoint(y, 1, -3, 1);
+        duePoint(y, 2, 3, 1);
+        // X1^2 + 4 X1: one square is found ahead of being negative
+        formOf(y, 1, 1, 1, 0, 1, 4);
+        due("no square stays", y.under(5, 4, 2), 0);
+        due("told(1)", y.told(1), 0);
+        due("weight(0, 1)", y.weight(0, 1), 0);
     }
 
     private static void told() {
@@ -430,6 +453,20 @@ public final class PromisesTest {
         z.prove(0);
         z.plant(0, 2000000000000000000L, 3);
         due("too long below the diagonal", z.check(), 2);
+        // (X1 + 3 X2 + 2)^2: here it is 0 2
+        z.variables(2);
+        formOf(z, 1, 1, 1, 2, 2, 9, 0, 0, 4, 1, 2, 6, 0, 1, 4, 0, 2, 12);
+        z.prove(0);
+        z.plant(0, 2000000000000000000L, 3);
+        due("too long above the diagonal", z.check(), 2);
+        // (X1 + 1)^2 + 1: -2^62 and 1 / 2 have the least long as a product, though the sum would fit
+        z.variables(1);
+        formOf(z, 1, 1, 1, 0, 1, 2, 0, 0, 2);
+        z.prove(0);
+        z.plant(0, -(1L << 62), 1);
+        due("spoilt", z.check(), 0);
+        z.plant(1, 1, 2);
+        due("the least long", z.check(), 2);
         z.variables(4);
         formOf(z, 0, 0, 9985, 0, 1, -11040, 0, 2, 9410, 0, 3, 3848, 0, 4, -16106, 1, 1, 4289, 1, 2, -8214, 1, 3, -3810,
             1, 4, 10752, 2, 2, 13146, 2, 3, 16814, 2, 4, 4246, 3, 3, 5554, 3, 4, 5668, 4, 4, 12637);
@@ -502,7 +539,43 @@ public final class PromisesTest {
         due("count(2)", x.count(2), 0);
     }
 
+    /** Numbers far outside are refused as those next to the edge are, in every place of every call. */
+    private static void farOutside() {
+        promise = "2 to 18, far outside";
+        SquareSums x = threeSquares();
+        for (int far : new int[] {Integer.MIN_VALUE, Integer.MIN_VALUE + 1, -1000000007, 1 << 30, Integer.MAX_VALUE}) {
+            due("variables", x.variables(far), SquareSums.BAD);
+            due("term form", x.term(far, 0, 0, 1), -2000000);
+            due("term i", x.term(0, far, 0, 1), -2000000);
+            due("term j", x.term(0, 0, far, 1), -2000000);
+            due("term v", x.term(0, 0, 0, far), -2000000);
+            due("value form", x.value(far, 0, 0, 0, 0), -1);
+            due("value a", x.value(0, far, 0, 0, 0), -1);
+            due("value b", x.value(0, 0, far, 0, 0), -1);
+            due("value c, d", x.value(0, 0, 0, far, far), 9);
+            due("plain", x.plain(far), SquareSums.BAD);
+            due("prove", x.prove(far), SquareSums.BAD);
+            due("under goal", x.under(far, 0, 1), SquareSums.BAD);
+            due("under condition", x.under(0, far, 1), SquareSums.BAD);
+            due("under finer", x.under(0, 0, far), SquareSums.BAD);
+            due("told", x.told(far), SquareSums.BAD);
+            due("weight i", x.weight(far, 1), 0);
+            due("weight part", x.weight(0, far), 0);
+            due("line i", x.line(far, 0, 1), 0);
+            due("line k", x.line(0, far, 1), 0);
+            due("line part", x.line(0, 0, far), 0);
+            due("point k", x.point(far, 1), 0);
+            due("point part", x.point(1, far), 0);
+            due("near", x.near(far), 0);
+            due("plant", x.plant(far, 1, 1), SquareSums.BAD);
+            due("count", x.count(far), SquareSums.BAD);
+        }
+        due("nothing changed", x.check(), 1);
+        due("nothing proved", x.count(2), 1);
+    }
+
     public static void main(String[] args) {
+        farOutside();
         newObject();
         variables();
         form();
