@@ -49,9 +49,7 @@ public final class LanguageTest {
             }
         }
         hold(open.equals(new TreeSet<>(FACE)), "the face: " + open);
-        List<Class<?>> classes = new ArrayList<>(List.of(SquareSums.class.getDeclaredClasses()));
-        classes.add(SquareSums.class);
-        for (Class<?> type : classes) {
+        for (Class<?> type : allClasses()) {
             for (Method method : type.getDeclaredMethods()) {
                 boolean own = Modifier.isPublic(method.getModifiers());
                 hold(own || !openNames.contains(method.getName()), "no name of the face: " + method);
@@ -79,6 +77,43 @@ public final class LanguageTest {
             Matcher found = Pattern.compile(edge + word + edge).matcher(code);
             hold(!found.find(), "no '" + word + "' in the class");
         }
+    }
+
+    private static List<Class<?>> allClasses() {
+        List<Class<?>> classes = new ArrayList<>(List.of(SquareSums.class.getDeclaredClasses()));
+        classes.add(SquareSums.class);
+        return classes;
+    }
+
+    private static void sizes() throws Exception {
+        List<Class<?>> classes = allClasses();
+        hold(classes.size() <= 12, "at most twelve classes");
+        for (Class<?> type : classes) {
+            hold(type == SquareSums.class || Modifier.isStatic(type.getModifiers()), "static: " + type);
+            int fields = 0;
+            for (Field field : type.getDeclaredFields()) {
+                boolean ofClass = Modifier.isStatic(field.getModifiers());
+                fields += ofClass ? 0 : 1;
+                hold(!ofClass || Modifier.isFinal(field.getModifiers()), "a constant: " + field);
+            }
+            hold(fields <= 20, "at most twenty fields: " + type);
+            for (Method method : type.getDeclaredMethods()) {
+                hold(method.getParameterCount() <= 7, "at most seven parameters: " + method);
+            }
+        }
+        List<String> lines = Files.readAllLines(Path.of("src/main/java/SquareSums.java"));
+        Pattern head = Pattern.compile(
+            "( +)((public|private|static|int|long|boolean|void|[A-Z]\\w*) )*\\w+\\([^()]*\\) \\{");
+        int methods = 0;
+        for (int at = 0; at < lines.size(); at++) {
+            Matcher found = head.matcher(lines.get(at));
+            if (found.matches()) {
+                methods++;
+                int end = at + lines.subList(at, lines.size()).indexOf(found.group(1) + "}");
+                hold(end - at < 60, "a method is short: " + lines.get(at).trim());
+            }
+        }
+        hold(methods > 50, "methods were found: " + methods);
     }
 
     /** All calls of one run live in one room: the dearest of them makes nothing. */
@@ -112,6 +147,7 @@ public final class LanguageTest {
     public static void main(String[] args) throws Exception {
         face();
         words();
+        sizes();
         room();
         System.out.println(wrong == 0 ? "all rules looked at are kept" : wrong + " rules are not kept");
         if (wrong != 0) {

@@ -3,8 +3,8 @@ import java.util.List;
 
 /**
  * "Of several refusals the first one here: BAD (there is no such thing, a number is not as told), STATE, FULL; they
- * change nothing." Every refused call is made in every state of an object; then the object is held, with all that can be
- * asked of it, against a twin on which the call was not made.
+ * change nothing." Every refused call is made in every state of an object; then the object is held, with all that can
+ * be asked of it, against a twin on which the call was not made.
  */
 public final class RefusalsTest {
     private static final int LEAST_INT = Integer.MIN_VALUE, MOST_INT = Integer.MAX_VALUE;
